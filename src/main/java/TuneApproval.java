@@ -11,7 +11,6 @@ public final class TuneApproval {
     private static final int CART = -1;
 
     private static final int TAPE_MOST = 1600;
-    private static final int FEED_NUMBERS = 5;
     private static final int FEED_BYTES = 20;
     private static final int TUNES_MOST = 5;
     private static final int HOUSES_MOST = 4;
@@ -595,23 +594,30 @@ public final class TuneApproval {
         }
         rateAll();
         int rests = 0;
-        for (int pair = 0; pair < told.tunes * told.tunes; pair++) {
-            int first = pair / told.tunes;
-            int second = pair % told.tunes;
-            boolean asked = holds(cart, first) && holds(cart, second);
-            if (asked && isBestAgainst(house, first, second, cart) && isBestAgainst(other, second, first, cart)) {
-                if (rests == 0) {
-                    lying[0] = first;
-                    lying[1] = second;
-                    lyingCount = 2;
+        for (int first = 0; first < told.tunes; first++) {
+            for (int second = 0; second < told.tunes; second++) {
+                if (isBestAgainst(house, first, second, cart) && isBestAgainst(other, second, first, cart)) {
+                    if (rests == 0) {
+                        layTwo(first, second);
+                    }
+                    rests++;
                 }
-                rests++;
             }
         }
         return rests;
     }
 
+    private void layTwo(int first, int second) {
+        lying[0] = first;
+        lying[1] = second;
+        lyingCount = 2;
+    }
+
+    /** Whether a house that asks for a tune on the cart would be no gladder by another, the other one asking so. */
     private boolean isBestAgainst(int house, int tune, int others, int cart) {
+        if (!holds(cart, tune)) {
+            return false;
+        }
         int gained = tune == others ? 0 : rate(house, tune);
         for (int another = 0; another < told.tunes; another++) {
             int gain = another == others ? 0 : rate(house, another);
@@ -929,8 +935,12 @@ public final class TuneApproval {
         static final int OR = 109;
         static final int AND = 110;
         static final int NOT = 111;
-        // What a formula can be made of; the numbers of these are the places of Lane.facts.
+        // The facts that a formula can be made of; Lane.facts has them in this order.
         static final int SAME = 112;
+        static final int TURN = 113;
+        static final int LONG = 114;
+        static final int WORN = 115;
+        static final int WEEKS = 116;
         static final int PRICE = 117;
         static final int PURSE = 118;
 
@@ -1089,11 +1099,11 @@ public final class TuneApproval {
         private void tellUsualGladness() {
             formula.clear();
             formula.addFact(Kind.SAME);
-            formula.addFact(Kind.SAME + 1);
+            formula.addFact(Kind.TURN);
             formula.addNumber(3);
             formula.addOperator('*');
             formula.addOperator('+');
-            formula.addFact(Kind.SAME + 3);
+            formula.addFact(Kind.WORN);
             formula.addOperator('-');
         }
 
@@ -1139,12 +1149,12 @@ public final class TuneApproval {
 
         int gladnessBy(int same, boolean turn, int tune, int worn, int weeks, int purse) {
             facts[0] = same;
-            facts[1] = turn ? 1 : 0;
-            facts[2] = left(tune, worn);
-            facts[3] = worn;
-            facts[4] = weeks;
-            facts[5] = prices[tune];
-            facts[6] = purse;
+            facts[Kind.TURN - Kind.SAME] = turn ? 1 : 0;
+            facts[Kind.LONG - Kind.SAME] = left(tune, worn);
+            facts[Kind.WORN - Kind.SAME] = worn;
+            facts[Kind.WEEKS - Kind.SAME] = weeks;
+            facts[Kind.PRICE - Kind.SAME] = prices[tune];
+            facts[Kind.PURSE - Kind.SAME] = purse;
             return Math.max(-GLADNESS_MOST, Math.min(GLADNESS_MOST, formula.valueBy(facts)));
         }
     }

@@ -173,6 +173,25 @@ public final class PromisesTest {
         faulty("hums 00001;", 1, 5);
         faulty("hums 3a;", 1, 5);
         faulty("hums 999 ?", 4, 5);
+        cut("hums 35;", 6, 6);
+        cut("glad 1;", 3, 0);
+        faulty(";".repeat(1600), 2, 0);
+        faulty("hums 3" + " ".repeat(1594), 2, 1600);
+        faulty("a".repeat(1600), 1, 0);
+        faulty("1".repeat(1600), 1, 0);
+        fine("tune dune price 1 notes 1 2 3;tune hot price 1 notes 1 2 3;tune a price 1 notes 1 2 3;"
+                + "tune aa price 1 notes 1 2 3;tune ab price 1 notes 1 2 3;", 0);
+        fine("\n".repeat(1600), 0);
+    }
+
+    /** What stands on the tape behind its end counts for nothing. */
+    private static void cut(String text, int length, int place) {
+        TuneApproval x = new TuneApproval();
+        put(x, text);
+        x.end(length);
+        due("lane of " + text + " cut", x.lane(), NONE);
+        due("fault(0) of " + text + " cut", x.fault(0), 2);
+        due("fault(1) of " + text + " cut", x.fault(1), place);
     }
 
     private static void standing() {
@@ -589,6 +608,12 @@ public final class PromisesTest {
         due("will(2, 60, 1)", x.will(2, 60, 1), 0);
         due("will(1, 2, 0)", x.will(1, 2, 0), -1);
         due("will(0, 60, 0)", x.will(0, 60, 0), -1);
+        // draw 17 comes to 400, the least rest that there is: nobody hums all the same
+        TuneApproval y = told(TUNE_A + HOUSE_A + "draw 17;hums 1;");
+        y.bring(0, 0);
+        due("will(0, 1, 0)", y.will(0, 1, 0), 10);
+        due("will(0, 1, 1)", y.will(0, 1, 1), 0);
+        due("purse(0, 1)", y.purse(0, 1), 8);
         due("will(0, 61, 0)", x.will(0, 61, 0), -2);
         due("will(0, -1, 0)", x.will(0, -1, 0), -2);
         due("will(3, 0, 0)", x.will(3, 0, 0), -2);
@@ -849,6 +874,17 @@ public final class PromisesTest {
         due("swap(1)", x.swap(1), 2);
         due("swap(2)", x.swap(2), NONE);
         due("swap(-1)", x.swap(-1), NONE);
+        // one who would be as glad as now is not gladder
+        TuneApproval y = told("tune a price 0 notes 0 0 0;tune b price 0 notes 1 1 1;house x at 0 purse 0 likes 1 1 1;"
+                + "house y at 0 purse 0 likes 5 5 5;house z at 0 purse 0 likes 0 0 0;");
+        y.bring(0, 0);
+        y.bring(1, 1);
+        due("swap(0)", y.swap(0), NONE);
+        y.fetch(0);
+        y.fetch(1);
+        y.bring(0, 1);
+        y.bring(1, 2);
+        due("swap(0)", y.swap(0), NONE);
         // weeks make every new one more welcome than one's own, 0 and 1 are the first two then
         x.week();
         due("swap(0)", x.swap(0), 0);
@@ -924,6 +960,9 @@ public final class PromisesTest {
         x.bring(0, 0);
         x.week();
         due("alike(0, 0)", x.alike(0, 0), 3);
+        TuneApproval y = told("tune a price 0 notes 0 0 0 0 0 0 0 5;tune b price 0 notes 1 2 3;tune c price 0 notes 5 1 2 3;");
+        due("alike(1, 2)", y.alike(1, 2), 3);
+        due("alike(2, 1)", y.alike(2, 1), 3);
     }
 
     private static void law() {
@@ -940,6 +979,7 @@ public final class PromisesTest {
         TuneApproval y = told(TUNE_A + HOUSE_A + "glad purse<5;");
         due("law(0, 4)", y.law(0, 4), 1);
         due("law(0, 5)", y.law(0, 5), 0);
+        due("law(0, 0)", told("tune a price 0 notes 1 2 3;" + HOUSE_A).law(0, 0), 1);
     }
 
     private static void favourite() {
@@ -1117,6 +1157,7 @@ public final class PromisesTest {
         x.known(0, 6, true);
         due("ask(0, 1)", x.ask(0, 1), 0);
         due("ask(1, 1)", x.ask(1, 1), 1);
+        due("sure(2, 1)", x.sure(2, 1), 0);
         x.known(0, 6, false);
         due("ask(0, 1)", x.ask(0, 1), NONE);
         due("ask(1, 0)", x.ask(1, 0), 125);
