@@ -1,70 +1,7 @@
-import java.nio.charset.StandardCharsets;
-
 /** Each promise of the document by its number: ordinary inputs, edges, wrong inputs; all answers worked out by hand. */
-public final class PromisesTest {
-    private static final int NONE = TuneApproval.NONE;
-    private static final int NO_GLAD = -1000000000;
-    private static final int MIN = Integer.MIN_VALUE;
-    private static final int MAX = Integer.MAX_VALUE;
-    // Tunes: 0 aria, 1 jig, 2 hymn; houses: 0 low, 1 mid, 2 top.
-    private static final String LANE = "approval 2;tune aria price 10 notes 1 2 3 4 5;tune jig price 4 notes 3 3 1;"
-            + "tune hymn price 7 notes 0 1 2 3;house low at 5 purse 12 likes 1 2 3;house mid at 2 purse 9 likes 3 3 1;"
-            + "house top at 9 purse 3 likes 6 6 0;draw 7;";
-    private static final String TUNE_A = "tune a price 1 notes 1 2 3;";
-    private static final String HOUSE_A = "house a at 1 purse 9 likes 1 2 3;";
-    private static int wrong = 0;
-    private static int promise = 0;
-
-    private static void due(String call, long got, long want) {
-        if (got != want) {
-            wrong++;
-            System.out.println("promise " + promise + ": " + call + " answered " + got + ", due is " + want);
-        }
-    }
-
-    private static void due(String call, boolean got, boolean want) {
-        due(call, got ? 1 : 0, want ? 1 : 0);
-    }
-
-    private static void put(TuneApproval x, String text) {
-        byte[] bytes = text.getBytes(StandardCharsets.ISO_8859_1);
-        int before = x.about(11);
-        for (int at = 0; at < bytes.length; at += 20) {
-            int[] five = new int[5];
-            for (int i = 0; i < 20; i++) {
-                int sign = at + i < bytes.length ? bytes[at + i] & 255 : 32;
-                five[i / 4] = five[i / 4] << 8 | sign;
-            }
-            due("feed", x.feed(five[0], five[1], five[2], five[3], five[4]), before + at + 20);
-        }
-        due("end", x.end(before + bytes.length), before + bytes.length);
-    }
-
-    private static TuneApproval told(String text) {
-        TuneApproval x = new TuneApproval();
-        put(x, text);
-        due("lane of " + text, x.lane() == NONE, false);
-        return x;
-    }
-
-    private static void faulty(String text, int fault, int place) {
-        TuneApproval x = new TuneApproval();
-        put(x, text);
-        due("lane of " + text, x.lane(), NONE);
-        due("fault(0) of " + text, x.fault(0), fault);
-        due("fault(1) of " + text, x.fault(1), place);
-    }
-
-    private static void fine(String text, int houses) {
-        TuneApproval x = new TuneApproval();
-        put(x, text);
-        due("lane of " + text, x.lane(), houses);
-        due("fault(0) of " + text, x.fault(0), 0);
-        due("fault(1) of " + text, x.fault(1), NONE);
-    }
-
+public final class PromisesTest extends Checks {
     private static void newObject() {
-        promise = 1;
+        promise(1);
         TuneApproval x = new TuneApproval();
         int[] all = {0, 0, 1, 0, 0, 0, 0, 0, 0, 0, 0, 0, 0, 0, 0};
         for (int what = 0; what < all.length; what++) {
@@ -75,7 +12,7 @@ public final class PromisesTest {
     }
 
     private static void feed() {
-        promise = 2;
+        promise(2);
         TuneApproval x = new TuneApproval();
         for (int i = 1; i <= 80; i++) {
             due("feed", x.feed(0, -1, MIN, MAX, 7), 20 * i);
@@ -95,7 +32,7 @@ public final class PromisesTest {
     }
 
     private static void end() {
-        promise = 3;
+        promise(3);
         TuneApproval x = new TuneApproval();
         due("end(0)", x.end(0), 0);
         due("end(1)", x.end(1), NONE);
@@ -111,7 +48,7 @@ public final class PromisesTest {
     }
 
     private static void lane() {
-        promise = 4;
+        promise(4);
         TuneApproval x = told(LANE);
         due("about(11)", x.about(11), 0);
         x.later(5);
@@ -145,7 +82,7 @@ public final class PromisesTest {
     }
 
     private static void faults() {
-        promise = 5;
+        promise(5);
         TuneApproval x = new TuneApproval();
         due("fault(0)", x.fault(0), 0);
         due("fault(1)", x.fault(1), NONE);
@@ -283,7 +220,7 @@ public final class PromisesTest {
     }
 
     private static void tune() {
-        promise = 6;
+        promise(6);
         TuneApproval x = told(LANE);
         int[] all = {10, 5, 0, -1, 0, 0};
         for (int what = 0; what < 6; what++) {
@@ -312,7 +249,7 @@ public final class PromisesTest {
     }
 
     private static void note() {
-        promise = 7;
+        promise(7);
         TuneApproval x = told(LANE);
         for (int i = 0; i < 5; i++) {
             due("note(0, " + i + ")", x.note(0, i), i + 1);
@@ -334,7 +271,7 @@ public final class PromisesTest {
     }
 
     private static void house() {
-        promise = 8;
+        promise(8);
         TuneApproval x = told(LANE);
         int[] all = {2, 9, -1, 0};
         for (int what = 0; what < 4; what++) {
@@ -354,7 +291,7 @@ public final class PromisesTest {
     }
 
     private static void glad() {
-        promise = 9;
+        promise(9);
         TuneApproval x = told(LANE);
         int[] low = {6, 3, 6};
         int[] mid = {2, 6, 2};
@@ -402,7 +339,7 @@ public final class PromisesTest {
     }
 
     private static void gladByWeeks() {
-        promise = 9;
+        promise(9);
         TuneApproval x = told("approval 9;tune a price 0 notes 1 2 3 4;" + HOUSE_A + "house b at 0 purse 0 likes 0 0 0;"
                 + "glad weeks*10+worn;");
         x.bring(0, 0);
@@ -418,7 +355,7 @@ public final class PromisesTest {
     }
 
     private static void week() {
-        promise = 10;
+        promise(10);
         TuneApproval x = told(LANE);
         due("week()", x.week(), 0);
         due("about(6)", x.about(6), 7);
@@ -478,7 +415,7 @@ public final class PromisesTest {
     }
 
     private static void bring() {
-        promise = 11;
+        promise(11);
         TuneApproval x = told(LANE);
         due("bring(2, 0)", x.bring(2, 0), 6);
         due("bring(2, 1)", x.bring(2, 1), NO_GLAD);
@@ -494,7 +431,7 @@ public final class PromisesTest {
     }
 
     private static void fetch() {
-        promise = 12;
+        promise(12);
         TuneApproval x = told(LANE);
         due("fetch(0)", x.fetch(0), NONE);
         x.bring(0, 2);
@@ -511,7 +448,7 @@ public final class PromisesTest {
     }
 
     private static void give() {
-        promise = 13;
+        promise(13);
         TuneApproval x = told(LANE);
         x.bring(2, 0);
         due("give(2)", x.give(2), NONE);
@@ -529,7 +466,7 @@ public final class PromisesTest {
     }
 
     private static void fill() {
-        promise = 14;
+        promise(14);
         TuneApproval x = told(LANE);
         due("fill(0, 1)", x.fill(0, 1), 13);
         due("fill(0, 50)", x.fill(0, 50), 63);
@@ -547,7 +484,7 @@ public final class PromisesTest {
     }
 
     private static void undo() {
-        promise = 15;
+        promise(15);
         TuneApproval x = told(LANE);
         due("undo()", x.undo(), false);
         x.bring(2, 0);
@@ -575,7 +512,7 @@ public final class PromisesTest {
     }
 
     private static void redo() {
-        promise = 16;
+        promise(16);
         TuneApproval x = told(LANE);
         due("redo()", x.redo(), false);
         x.bring(2, 0);
@@ -598,7 +535,7 @@ public final class PromisesTest {
     }
 
     private static void will() {
-        promise = 17;
+        promise(17);
         TuneApproval x = told(LANE + "hums 100;");
         x.bring(2, 0);
         x.bring(1, 2);
@@ -625,7 +562,7 @@ public final class PromisesTest {
     }
 
     private static void purse() {
-        promise = 18;
+        promise(18);
         TuneApproval x = told(LANE + "hums 100;");
         x.bring(2, 0);
         due("purse(0, 1)", x.purse(0, 1), 12);
@@ -638,7 +575,7 @@ public final class PromisesTest {
     }
 
     private static void takes() {
-        promise = 19;
+        promise(19);
         TuneApproval x = told(LANE);
         due("takes(0)", x.takes(0), 7);
         due("takes(1)", x.takes(1), 6);
@@ -659,7 +596,7 @@ public final class PromisesTest {
     }
 
     private static void round() {
-        promise = 20;
+        promise(20);
         TuneApproval x = told(LANE);
         due("round(0)", x.round(0), 2);
         due("round(1)", x.round(1), 17);
@@ -689,7 +626,7 @@ public final class PromisesTest {
     }
 
     private static void walk() {
-        promise = 21;
+        promise(21);
         TuneApproval x = told(LANE);
         due("walk(0)", x.walk(0), 9);
         due("lies", x.lies(0) * 100 + x.lies(1) * 10 + x.lies(2), 102);
@@ -708,7 +645,7 @@ public final class PromisesTest {
     }
 
     private static void barter() {
-        promise = 22;
+        promise(22);
         TuneApproval x = told(LANE);
         due("barter()", x.barter(), 0);
         due("about(13)", x.about(13), 3);
@@ -736,7 +673,7 @@ public final class PromisesTest {
     }
 
     private static void find() {
-        promise = 23;
+        promise(23);
         TuneApproval x = told(LANE);
         due("find(1, 2, 3)", x.find(1, 2, 3), 5);
         due("find(3, 3, 1)", x.find(3, 3, 1), 2);
@@ -754,7 +691,7 @@ public final class PromisesTest {
     }
 
     private static void hum() {
-        promise = 24;
+        promise(24);
         TuneApproval x = told(LANE);
         due("hum(3, 4, 5)", x.hum(3, 4, 5), 1);
         due("hum(1, 2, 3)", x.hum(1, 2, 3), 4);
@@ -766,7 +703,7 @@ public final class PromisesTest {
     }
 
     private static void spinsters() {
-        promise = 25;
+        promise(25);
         TuneApproval x = told("tune a price 9 notes 1 1 1;tune b price 9 notes 2 2 2;tune c price 10 notes 1 1 1;"
                 + "house a at 0 purse 9 likes 1 1 1;");
         due("spinsters()", x.spinsters(), 6);
@@ -778,7 +715,7 @@ public final class PromisesTest {
     }
 
     private static void pair() {
-        promise = 26;
+        promise(26);
         TuneApproval x = told(LANE);
         due("pair(0, 0)", x.pair(0, 0), 0);
         due("pair(0, 1)", x.pair(0, 1), 6);
@@ -798,7 +735,7 @@ public final class PromisesTest {
     }
 
     private static void frayed() {
-        promise = 27;
+        promise(27);
         TuneApproval x = told(LANE);
         due("frayed(0)", x.frayed(0), 2);
         due("frayed(1)", x.frayed(1), 0);
@@ -813,7 +750,7 @@ public final class PromisesTest {
     }
 
     private static void rivals() {
-        promise = 28;
+        promise(28);
         TuneApproval x = told(LANE);
         due("rivals(0, 1)", x.rivals(0, 1), 2);
         due("about(13)", x.about(13), 2);
@@ -838,7 +775,7 @@ public final class PromisesTest {
     }
 
     private static void sale() {
-        promise = 29;
+        promise(29);
         TuneApproval x = told(LANE);
         due("sale(0, 0)", x.sale(0, 0), 11);
         due("sale(0, 1)", x.sale(0, 1), 6);
@@ -862,7 +799,7 @@ public final class PromisesTest {
     }
 
     private static void swap() {
-        promise = 30;
+        promise(30);
         TuneApproval x = told("approval 9;tune a price 0 notes 0 0 0;tune b price 0 notes 1 1 1;tune c price 0 notes 0 0 0;"
                 + "house x at 0 purse 0 likes 5 5 5;house y at 0 purse 0 likes 1 1 1;house z at 0 purse 0 likes 0 0 0;"
                 + "glad same-weeks;");
@@ -895,7 +832,7 @@ public final class PromisesTest {
     }
 
     private static void idle() {
-        promise = 31;
+        promise(31);
         TuneApproval x = told(LANE);
         due("idle()", x.idle(), 7);
         x.bring(2, 0);
@@ -908,7 +845,7 @@ public final class PromisesTest {
     }
 
     private static void fashion() {
-        promise = 32;
+        promise(32);
         due("fashion()", told(LANE).fashion(), 1);
         due("fashion()", new TuneApproval().fashion(), NONE);
         due("fashion()", told("house a at 0 purse 0 likes 6 6 6;").fashion(), 6);
@@ -917,7 +854,7 @@ public final class PromisesTest {
     }
 
     private static void due() {
-        promise = 33;
+        promise(33);
         TuneApproval x = told("approval 9;" + TUNE_A + HOUSE_A + "hums 100;");
         due("due(0)", x.due(0), NONE);
         due("due(1)", x.due(1), NONE);
@@ -935,7 +872,7 @@ public final class PromisesTest {
     }
 
     private static void along() {
-        promise = 34;
+        promise(34);
         TuneApproval x = told(LANE);
         due("along(2, 5)", x.along(2, 5), 3);
         due("along(9, 5)", x.along(9, 5), 5);
@@ -948,7 +885,7 @@ public final class PromisesTest {
     }
 
     private static void alike() {
-        promise = 35;
+        promise(35);
         TuneApproval x = told("tune a price 0 notes 5 1 2 3;tune b price 0 notes 4 1 2 3;tune c price 0 notes 1 2 3;"
                 + "tune d price 0 notes 5 1 2 4;house a at 0 purse 0 likes 0 0 0;");
         due("alike(0, 1)", x.alike(0, 1), 3);
@@ -966,7 +903,7 @@ public final class PromisesTest {
     }
 
     private static void law() {
-        promise = 36;
+        promise(36);
         TuneApproval x = told(LANE);
         due("law(0, 3)", x.law(0, 3), 0);
         due("law(0, 4)", x.law(0, 4), 1);
@@ -983,7 +920,7 @@ public final class PromisesTest {
     }
 
     private static void favourite() {
-        promise = 37;
+        promise(37);
         due("favourite()", told(LANE).favourite(), 1);
         due("favourite()", told(HOUSE_A).favourite(), NONE);
         due("favourite()", told(TUNE_A + "tune b price 1 notes 1 2 3;").favourite(), 0);
@@ -992,7 +929,7 @@ public final class PromisesTest {
     }
 
     private static void earned() {
-        promise = 38;
+        promise(38);
         TuneApproval x = told(LANE);
         due("earned()", x.earned(), 0);
         x.bring(2, 0);
@@ -1008,7 +945,7 @@ public final class PromisesTest {
     }
 
     private static void odds() {
-        promise = 39;
+        promise(39);
         TuneApproval x = told("hums 30;");
         due("odds(0, 0)", x.odds(0, 0), 1);
         due("odds(0, 1)", x.odds(0, 1), 1);
@@ -1029,7 +966,7 @@ public final class PromisesTest {
     }
 
     private static void lies() {
-        promise = 40;
+        promise(40);
         TuneApproval x = told(LANE);
         due("lies(0)", x.lies(0), -2);
         x.walk(0);
@@ -1043,7 +980,7 @@ public final class PromisesTest {
     }
 
     private static void known() {
-        promise = 41;
+        promise(41);
         TuneApproval x = told(LANE);
         due("known(3, 0, true)", x.known(3, 0, true), NONE);
         due("known(-1, 0, true)", x.known(-1, 0, true), NONE);
@@ -1060,7 +997,7 @@ public final class PromisesTest {
     }
 
     private static void untell() {
-        promise = 42;
+        promise(42);
         TuneApproval x = told(LANE);
         due("untell(0)", x.untell(0), false);
         x.known(0, 999, true);
@@ -1074,7 +1011,7 @@ public final class PromisesTest {
     }
 
     private static void later() {
-        promise = 43;
+        promise(43);
         TuneApproval x = new TuneApproval();
         due("later(0)", x.later(0), 0);
         due("later(7)", x.later(7), 7);
@@ -1092,7 +1029,7 @@ public final class PromisesTest {
     }
 
     private static void rows() {
-        promise = 44;
+        promise(44);
         due("rows(0)", new TuneApproval().rows(0), 0);
         TuneApproval x = told("tune a price 5 notes 0 0 0;tune b price 5 notes 1 2 3;" + HOUSE_A
                 + "house b at 0 purse 4 likes 6 6 6;");
@@ -1126,7 +1063,7 @@ public final class PromisesTest {
     }
 
     private static void sure() {
-        promise = 45;
+        promise(45);
         due("sure(0, 0)", new TuneApproval().sure(0, 0), NONE);
         TuneApproval x = told("tune a price 5 notes 0 1 2;" + HOUSE_A);
         due("sure(0, 0)", x.sure(0, 0), -2);
@@ -1143,7 +1080,7 @@ public final class PromisesTest {
     }
 
     private static void ask() {
-        promise = 46;
+        promise(46);
         due("ask(0, 0)", new TuneApproval().ask(0, 0), NONE);
         due("ask(0, 0), no tune", told(HOUSE_A).ask(0, 0), NONE);
         // by tune 0: 216 rows of 0, 126 of 3, 1 of 6; tune 1 parts them no better, tune 2 does
@@ -1164,7 +1101,7 @@ public final class PromisesTest {
     }
 
     private static void image() {
-        promise = 47;
+        promise(47);
         TuneApproval x = told(LANE);
         x.week();
         due("image(0)", x.image(0), 1);
@@ -1175,7 +1112,7 @@ public final class PromisesTest {
     }
 
     private static void restore() {
-        promise = 48;
+        promise(48);
         TuneApproval x = told(LANE);
         due("restore(0)", x.restore(0), NONE);
         x.bring(2, 0);
@@ -1204,7 +1141,7 @@ public final class PromisesTest {
     }
 
     private static void about() {
-        promise = 49;
+        promise(49);
         TuneApproval x = told(LANE + "hums 30;glad same+(turn);");
         put(x, "12345");
         x.later(9);
@@ -1275,9 +1212,6 @@ public final class PromisesTest {
         image();
         restore();
         about();
-        System.out.println("PromisesTest: " + wrong + " wrong");
-        if (wrong != 0) {
-            System.exit(1);
-        }
+        report("PromisesTest");
     }
 }
