@@ -126,6 +126,31 @@ public final class AskedEdgesTest extends Checks {
         due("will(0, 60, 0)", y.will(0, 60, 0), 10);
     }
 
+    private static void weeksAndWornCount() {
+        promise(17);
+        // a week of three is gone
+        TuneApproval x = told("approval 3;" + TUNE_A + HOUSE_A);
+        x.bring(0, 0);
+        x.week();
+        due("will(0, 2, 0)", x.will(0, 2, 0), 10);
+        due("will(0, 1, 0)", x.will(0, 1, 0), 0);
+        promise(18);
+        due("purse(0, 1)", x.purse(0, 1), 9);
+        due("purse(0, 2)", x.purse(0, 2), 8);
+        // one that was worn is worn more by what is to come: the third time it is liked, and paid for
+        TuneApproval y = told(TUNE_A + HOUSE_A + "glad worn=2;");
+        y.bring(0, 0);
+        y.week();
+        y.bring(0, 0);
+        promise(17);
+        due("will(0, 1, 0)", y.will(0, 1, 0), -1);
+        y.week();
+        y.bring(0, 0);
+        due("will(0, 1, 0)", y.will(0, 1, 0), 10);
+        promise(18);
+        due("purse(0, 1)", y.purse(0, 1), 8);
+    }
+
     private static void pursesToCome() {
         promise(18);
         for (int n : new int[] {-1, 61, MIN, MAX}) {
@@ -924,6 +949,7 @@ public final class AskedEdgesTest extends Checks {
         nothingIsDone();
         wills();
         willHum();
+        weeksAndWornCount();
         pursesToCome();
         takesAtTheEdges();
         rounds();

@@ -433,6 +433,76 @@ public final class KnownEdgesTest extends Checks {
         due("redo()", x.redo(), false);
     }
 
+    /** Five tunes and four houses, of which no two numbers are alike. */
+    private static TuneApproval fullHouse() {
+        TuneApproval x = told("approval 4;tune a price 99 notes 0 0 0 0 0 0 0 0;tune b price 99 notes 0 0 0 0 0 0 0 0;tune c price 99 notes 0 0 0;"
+                + "tune d price 5 notes 0 0 0;tune e price 0 notes 0 0 0;house a at 0 purse 11 likes 0 0 0;house b at 0 purse 22 likes 0 0 0;"
+                + "house c at 0 purse 33 likes 0 0 0;house d at 0 purse 44 likes 0 0 0;draw 1;glad 1;");
+        for (int worn = 0; worn < 3; worn++) {
+            x.bring(0, 3);
+            if (worn > 0) {
+                x.bring(1, 2);
+            }
+            if (worn > 1) {
+                x.bring(3, 1);
+            }
+            for (int week = 0; week < 4; week++) {
+                x.week();
+            }
+        }
+        x.bring(1, 3);
+        x.week();
+        x.bring(0, 0);
+        x.week();
+        return x;
+    }
+
+    private static void fullHouseIs(TuneApproval x) {
+        int[][] tunes = {{99, 5, 3, 0, 0, 1}, {99, 6, 2, 3, 0, 2}, {99, 3, 0, -1, 0, 0}, {5, 3, 0, 1, 1, 0}, {0, 3, 0, -1, 0, 0}};
+        int[] purses = {11, 17, 33, 44};
+        for (int tune = 0; tune < 5; tune++) {
+            for (int what = 0; what < 6; what++) {
+                due("tune(" + tune + ", " + what + ")", x.tune(tune, what), tunes[tune][what]);
+            }
+        }
+        for (int house = 0; house < 4; house++) {
+            due("house(" + house + ", 1)", x.house(house, 1), purses[house]);
+        }
+        due("about(5)", x.about(5), 14);
+    }
+
+    private static void restoredAndUndoneInFull() {
+        promise(48);
+        TuneApproval x = fullHouse();
+        fullHouseIs(x);
+        int seed = x.about(6);
+        x.image(2);
+        x.image(0);
+        put(x, "?");
+        for (int box = 0; box < 3; box += 2) {
+            x.fill(3, 50);
+            x.week();
+            x.fetch(0);
+            x.bring(4, 0);
+            x.give(3);
+            due("restore(" + box + ")", x.restore(box), 14);
+            fullHouseIs(x);
+            due("about(6)", x.about(6), seed);
+        }
+        promise(15);
+        TuneApproval y = fullHouse();
+        y.fill(3, 50);
+        y.week();
+        y.fetch(0);
+        y.bring(4, 0);
+        y.give(3);
+        for (int i = 0; i < 5; i++) {
+            due("undo()", y.undo(), true);
+        }
+        fullHouseIs(y);
+        due("about(6)", y.about(6), seed);
+    }
+
     private static void restoresOfNothing() {
         promise(48);
         for (int box : new int[] {0, 2, -1, 3, MIN, MAX}) {
@@ -499,6 +569,7 @@ public final class KnownEdgesTest extends Checks {
         asksOfFive();
         images();
         imagesOfAll();
+        restoredAndUndoneInFull();
         restoresOfNothing();
         imagesLeaveTheRest();
         abouts();

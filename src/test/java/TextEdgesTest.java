@@ -114,6 +114,8 @@ public final class TextEdgesTest extends Checks {
         TuneApproval x = told(LANE);
         x.later(5);
         x.known(0, 1, true);
+        x.bring(1, 2);
+        x.week();
         x.bring(0, 0);
         x.week();
         x.image(1);
@@ -136,6 +138,66 @@ public final class TextEdgesTest extends Checks {
         TuneApproval w = new TuneApproval();
         w.later(5);
         alike("lane() of nothing", z, w);
+        // the same lane told once more is as it was at first: what was worn is new
+        TuneApproval v = busy();
+        due("worn", v.tune(1, 2), 1);
+        put(v, LANE);
+        due("lane()", v.lane(), 3);
+        TuneApproval u = told(LANE);
+        u.later(5);
+        alike("lane() once more", v, u);
+    }
+
+    /** Told one lane behind another; the third comes where the first was. */
+    private static void eachLaneBeginsAnew() {
+        promise(4);
+        String all = "approval 9;hums 100;draw 999;glad not not not(7+7)*2;" + FIVE_TUNES + FOUR_HOUSES;
+        TuneApproval x = told(all);
+        for (int n = 0; n < 3; n++) {
+            put(x, TUNE_A + HOUSE_A);
+            due("lane()", x.lane(), 1);
+            due("tunes", x.about(1), 1);
+            due("approval", x.about(2), 1);
+            due("seed", x.about(6), 0);
+            due("hums", x.about(14), 0);
+            due("units", x.about(12), 0);
+            due("glad(0, 0)", x.glad(0, 0), 6);
+            due("rows(0)", x.rows(0), 343);
+        }
+        // a longer formula leaves nothing to a shorter one
+        TuneApproval y = told("glad not not not not 7;" + TUNE_A + HOUSE_A);
+        for (int n = 0; n < 3; n++) {
+            put(y, "glad 7;" + TUNE_A + HOUSE_A);
+            due("lane()", y.lane(), 1);
+            due("units", y.about(12), 1);
+            due("glad(0, 0)", y.glad(0, 0), 7);
+        }
+        // what was known of one lane's tunes is not known of the next one's
+        TuneApproval z = told("tune a price 0 notes 1 1 1;" + HOUSE_A);
+        for (int note = 1; note < 4; note++) {
+            due("known", z.known(0, 6, true), 0);
+            due("rows(0)", z.rows(0), 1);
+            due("sure(0, 0)", z.sure(0, 0), note);
+            put(z, "tune a price 0 notes" + (" " + (note + 1)).repeat(3) + ";" + HOUSE_A);
+            due("lane()", z.lane(), 1);
+        }
+    }
+
+    private static void oneFaultBehindAnother() {
+        promise(5);
+        TuneApproval x = new TuneApproval();
+        for (int blanks = 0; blanks < 5; blanks++) {
+            x.end(0);
+            put(x, " ".repeat(blanks) + "at");
+            due("lane()", x.lane(), NONE);
+            due("fault(0)", x.fault(0), 2);
+            due("fault(1)", x.fault(1), blanks);
+            x.end(0);
+            put(x, " ".repeat(blanks) + "hums  101;");
+            due("lane()", x.lane(), NONE);
+            due("fault(0)", x.fault(0), 4);
+            due("fault(1)", x.fault(1), blanks + 6);
+        }
     }
 
     private static TuneApproval busyBefore(String text) {
@@ -186,6 +248,13 @@ public final class TextEdgesTest extends Checks {
         faulty(" ".repeat(1592) + "hums 100", 2, 1600);
         faulty(" ".repeat(1599) + "?", 1, 1599);
         faulty(" ".repeat(1599) + "3", 2, 1599);
+        // as many TOKENS as there can be
+        faulty(";1".repeat(800), 2, 0);
+        faulty("1;".repeat(800), 2, 0);
+        faulty(";a".repeat(800), 2, 0);
+        faulty("a;".repeat(800), 2, 0);
+        faulty("glad" + "(".repeat(1596), 2, 11);
+        faulty("glad 1" + "+1".repeat(797), 2, 65);
     }
 
     private static void defaults() {
@@ -524,6 +593,17 @@ public final class TextEdgesTest extends Checks {
         fine(FIVE_TUNES + FOUR_HOUSES, 4);
         fine(TUNE_A + HOUSE_A, 1);
         fine(HOUSE_A + TUNE_A, 1);
+        // names that are alike and not the same
+        differ("ab", "ba");
+        differ("a", "aa");
+        differ("a", "ba");
+        differ("b", "ab");
+        differ("z", "aa");
+        differ("az", "ba");
+        differ("b", "bb");
+        differ("zzzzzzzz", "zzzzzzz");
+        differ("zzzzzzzz", "zzzzzzzy");
+        differ("azzzzzzz", "baaaaaaa");
         // a name of the lane before is not told already
         TuneApproval x = told(TUNE_A + HOUSE_A);
         put(x, TUNE_A + HOUSE_A);
@@ -534,6 +614,13 @@ public final class TextEdgesTest extends Checks {
         x.end(0);
         put(x, TUNE_A + HOUSE_A);
         due("lane()", x.lane(), 1);
+    }
+
+    private static void differ(String name, String other) {
+        fine("tune " + name + " price 0 notes 0 0 0;tune " + other + " price 0 notes 0 0 0;", 0);
+        fine("house " + name + " at 0 purse 0 likes 0 0 0;house " + other + " at 0 purse 0 likes 0 0 0;", 2);
+        String twice = "tune " + name + " price 0 notes 0 0 0;tune ";
+        faulty(twice + name + " price 0 notes 0 0 0;", 3, twice.length());
     }
 
     private static void numberIn(String before, int least, int most, String behind) {
@@ -635,6 +722,7 @@ public final class TextEdgesTest extends Checks {
         ends();
         laneSweeps();
         faultyLaneDoesNothing();
+        eachLaneBeginsAnew();
         howManyHouses();
         laneAtItsLongest();
         defaults();
@@ -659,6 +747,7 @@ public final class TextEdgesTest extends Checks {
         numbersThatCantBe();
         theFirstByItsPlace();
         whatFaultAnswers();
+        oneFaultBehindAnother();
         report("TextEdgesTest");
     }
 }
