@@ -362,6 +362,9 @@ public final class KnownEdgesTest extends Checks {
         TuneApproval y = told("tune a price 0 notes 1 2 3 4 5 6 0 1;" + HOUSE_A);
         due("ask(0, 0)", y.ask(0, 0), 0);
         due("ask(1, 0)", y.ask(1, 0), 152);
+        // twelve different ones, of which the most, 4 * 4 * 4 rows without 0, 1 and 2, come last
+        TuneApproval z = told("tune a price 0 notes 1 0 1 2 0 0 0 0;" + HOUSE_A + "glad same+turn*100;");
+        due("ask(1, 0)", z.ask(1, 0), 64);
     }
 
     // ---- promises 47 and 48
