@@ -19,6 +19,7 @@ public final class TuneApproval {
     private static final int LIKED = 3;
     private static final int NOTE_KINDS = 7;
     private static final int PLACE_MOST = 99;
+    private static final int WAY_BEYOND_ALL = (PLACE_MOST + 1) * HOUSES_MOST;
     private static final int UNITS_MOST = 30;
     private static final int NESTING_MOST = 7;
 
@@ -471,11 +472,11 @@ public final class TuneApproval {
         if (!isPlace(place)) {
             return NONE;
         }
-        int best = Integer.MAX_VALUE;
+        int best = WAY_BEYOND_ALL;
         int rows = rowsOf(told.houses);
         for (int number = 0; number < rows; number++) {
             spread(number, told.houses);
-            int way = trialIsOrder() ? wayFrom(place) : Integer.MAX_VALUE;
+            int way = trialIsOrder() ? wayFrom(place) : WAY_BEYOND_ALL;
             if (way < best) {
                 best = way;
                 layTrial();
@@ -520,12 +521,12 @@ public final class TuneApproval {
         for (int house = 0; house < told.houses; house++) {
             offers[house] = now.onApprovalIn(house);
         }
-        int best = Integer.MIN_VALUE;
+        int best = NO_GLADNESS;
         int choices = Math.max(1, told.tunes);
         int rows = rowsOf(choices);
         for (int number = 0; number < rows; number++) {
             spread(number, choices);
-            int together = trialIsBarter() ? barterGladness() : Integer.MIN_VALUE;
+            int together = trialIsBarter() ? barterGladness() : NO_GLADNESS;
             if (together > best) {
                 best = together;
                 layTrial();
@@ -846,7 +847,7 @@ public final class TuneApproval {
             return NONE;
         }
         int best = NONE;
-        int fewest = Integer.MAX_VALUE;
+        int fewest = Knowledge.ROWS + 1;
         for (int tune = 0; tune < told.tunes; tune++) {
             int most = knowledge.mostAlike(tune);
             if (most < fewest) {
@@ -990,7 +991,7 @@ public final class TuneApproval {
         private int length;
         private final int[] stack = new int[UNITS_MOST];
 
-        void clear() {
+        void empty() {
             length = 0;
         }
 
@@ -1097,7 +1098,7 @@ public final class TuneApproval {
 
         /** same + turn * 3 - worn */
         private void tellUsualGladness() {
-            formula.clear();
+            formula.empty();
             formula.addFact(Kind.SAME);
             formula.addFact(Kind.TURN);
             formula.addNumber(3);
@@ -1108,7 +1109,8 @@ public final class TuneApproval {
         }
 
         int left(int tune, int worn) {
-            return Math.max(NOTES_LEAST, noteCounts[tune] - worn);
+            int left = noteCounts[tune] - worn;
+            return left < NOTES_LEAST ? NOTES_LEAST : left;
         }
 
         /** The i-th of the notes that are left: those are the last ones. */
@@ -1329,7 +1331,7 @@ public final class TuneApproval {
                     break;
                 case Kind.GLAD:
                     gladTold = true;
-                    into.formula.clear();
+                    into.formula.empty();
                     readFormula(0, 0);
                     break;
                 case Kind.HUMS:
@@ -1636,7 +1638,7 @@ public final class TuneApproval {
 
     /** What is known of the three notes that the last house likes; a row is three notes as one number. */
     private static final class Knowledge {
-        private static final int ROWS = NOTE_KINDS * NOTE_KINDS * NOTE_KINDS;
+        static final int ROWS = NOTE_KINDS * NOTE_KINDS * NOTE_KINDS;
         // Of one tune: it has 0 to 8 notes that are liked, with a turn or without.
         private static final int VALUES_MOST = 2 * (NOTES_MOST + 1);
         int count;
